@@ -1,0 +1,177 @@
+/** Promises 12 (flying), 13 (packet), 14 (told) and 15 (clear). */
+public final class Promise12To15LinesAndNodesTest {
+    public static void main(String[] args) {
+        flying();
+        packets();
+        packetRefusals();
+        logsOfPackets();
+        toldByNumbers();
+        toldByClocks();
+        toldRefusals();
+        clearing();
+        clearingStates();
+        Checks.end("promises 12 to 15");
+    }
+
+    private static void flying() {
+        OrderedCast x = new OrderedCast(3, 0);
+        Checks.due("flying", x.flying(2, 0), 0);
+        x.say(2, 1);
+        x.say(2, 2);
+        Checks.due("flying", x.flying(2, 0), 2);
+        Checks.due("flying the other way", x.flying(0, 2), 0);
+        x.deliver(2, 0);
+        Checks.due("flying", x.flying(2, 0), 1);
+        Checks.due("flying", x.flying(0, 2), 1);
+        x.crash(0);
+        x.crash(2);
+        Checks.due("flying between crashed ones", x.flying(2, 0), 1);
+        Checks.bounds("flying from -1", () -> x.flying(-1, -1));
+        Checks.bounds("flying to 3", () -> x.flying(0, 3));
+        Checks.argument("flying to oneself", () -> x.flying(1, 1));
+    }
+
+    private static void packets() {
+        OrderedCast x = new OrderedCast(3, 0);
+        x.say(2, 1);
+        x.say(0, 2);
+        x.say(0, 3);
+        Checks.packet(x, 2, 0, 0, OrderedCast.ASK, 0, OrderedCast.NONE, 0);
+        Checks.packet(x, 0, 2, 1, OrderedCast.ORDER, 0, 1, 2);
+        x.lose(0, 2);
+        x.deliver(0, 2);
+        Checks.packet(x, 2, 0, 1, OrderedCast.WANT, 0, 0, OrderedCast.NONE);
+        OrderedCast y = new OrderedCast(2, 1);
+        y.hello(0);
+        y.say(0, 1);
+        Checks.packet(y, 0, 1, 0, OrderedCast.HELLO, 1, OrderedCast.NONE, OrderedCast.NONE);
+        Checks.packet(y, 0, 1, 1, OrderedCast.SAID, 2, OrderedCast.NONE, 0);
+    }
+
+    private static void packetRefusals() {
+        OrderedCast x = new OrderedCast(3, 0);
+        x.say(0, 1);
+        Checks.bounds("packet from 3", () -> x.packet(3, 0, 0, 0));
+        Checks.bounds("packet to -1", () -> x.packet(0, -1, 0, 0));
+        Checks.bounds("packet 1", () -> x.packet(0, 1, 1, 0));
+        Checks.bounds("packet -1", () -> x.packet(0, 1, -1, 0));
+        Checks.bounds("packet 1 and what 4", () -> x.packet(0, 1, 1, 4));
+        Checks.bounds("packet to oneself", () -> x.packet(1, 1, 0, 0));
+        Checks.argument("what 4", () -> x.packet(0, 1, 0, 4));
+        Checks.argument("what -1", () -> x.packet(0, 1, 0, -1));
+    }
+
+    /** What flies tells the log as it was when it was sent. */
+    private static void logsOfPackets() {
+        OrderedCast x = new OrderedCast(3, 0);
+        for (int i = 0; i < 3; i++) {
+            x.say(0, i);
+        }
+        x.lose(0, 1);
+        x.lose(0, 1);
+        x.deliver(0, 1);
+        x.crash(0);
+        x.suspect(1, 0);
+        Checks.told(x, 1, 1, 1, 0, 3, 0, 1);
+        x.suspect(2, 0);
+        Checks.packet(x, 2, 1, 0, OrderedCast.STATE, 1, 0, OrderedCast.NONE);
+        Checks.due("STATE", x.deliver(2, 1), 1);
+        x.say(1, 7);
+        x.say(1, 8);
+        Checks.packet(x, 1, 2, 0, OrderedCast.NEW, 1, 3, OrderedCast.NONE);
+        Checks.packet(x, 1, 2, 1, OrderedCast.ORDER, 1, 3, 3);
+        x.deliver(1, 2);
+        Checks.told(x, 2, 1, 1, 1, 3, 0, 1);
+        Checks.row(x, 2, 2);
+    }
+
+    private static void toldByNumbers() {
+        OrderedCast x = new OrderedCast(3, 0);
+        x.say(1, 1);
+        x.say(1, 2);
+        Checks.told(x, 1, 1, 0, 1, 0, 2, 0);
+        x.deliver(1, 0);
+        x.deliver(1, 0);
+        Checks.told(x, 1, 1, 0, 1, 0, 2, 0);
+        x.lose(0, 1);
+        x.deliver(0, 1);
+        Checks.told(x, 1, 1, 0, 1, 2, 1, 0);
+        x.crash(0);
+        x.suspect(1, 0);
+        Checks.told(x, 1, 1, 1, 0, 2, 1, 1);
+        Checks.told(x, 0, 0, 0, 1, 2, 0, 0);
+        Checks.told(x, 2, 1, 0, 1, 0, 0, 0);
+    }
+
+    private static void toldByClocks() {
+        OrderedCast x = new OrderedCast(3, 1);
+        x.say(1, 1);
+        x.hello(1);
+        x.crash(0);
+        x.crash(2);
+        x.suspect(1, 0);
+        Checks.told(x, 1, 1, 2, 1, 0, 0, 1);
+        x.suspect(1, 2);
+        Checks.told(x, 1, 1, 2, 1, 0, 0, 2);
+        Checks.told(x, 0, 0, 0, 1, 0, 0, 0);
+    }
+
+    private static void toldRefusals() {
+        for (int engine = 0; engine < 2; engine++) {
+            OrderedCast x = new OrderedCast(3, engine);
+            Checks.bounds("told of -1", () -> x.told(-1, 0));
+            Checks.bounds("told of 3", () -> x.told(3, 9));
+            Checks.argument("what 6", () -> x.told(0, 6));
+            Checks.argument("what -1", () -> x.told(0, -1));
+        }
+    }
+
+    private static void clearing() {
+        for (int engine = 0; engine < 2; engine++) {
+            OrderedCast x = new OrderedCast(4, engine);
+            String first = Checks.all(x);
+            x.say(0, 1);
+            x.say(1, 2);
+            x.deliver(1, 0);
+            x.deliver(0, 1);
+            x.crash(0);
+            x.suspect(1, 0);
+            x.suspect(3, 0);
+            x.clear();
+            Checks.due("after clear", Checks.all(x), first);
+            Checks.due("nodes", Checks.countNodes(x), 4);
+            Checks.due("say", x.say(1, 3), 0);
+            Checks.due("time", x.thing(0, 2), engine);
+            Checks.packet(x, 1, 0, 0, engine == 0 ? OrderedCast.ASK : OrderedCast.SAID, engine, OrderedCast.NONE, 0);
+            x.deliver(1, 0);
+            Checks.due("heard", x.heard(0), engine == 0 ? 1 : 0);
+            x.clear();
+            x.clear();
+            Checks.due("after clear", Checks.all(x), first);
+        }
+    }
+
+    /** What a leader kept of its STATES, and what a clock heard of others, is gone too. */
+    private static void clearingStates() {
+        OrderedCast x = new OrderedCast(3, 0);
+        x.crash(0);
+        x.suspect(2, 0);
+        x.deliver(2, 1);
+        x.clear();
+        x.crash(0);
+        x.suspect(1, 0);
+        Checks.told(x, 1, 1, 1, 0, 0, 0, 1);
+        OrderedCast y = new OrderedCast(3, 1);
+        for (int i = 0; i < 3; i++) {
+            y.hello(1);
+            y.deliver(1, 0);
+        }
+        y.hello(2);
+        y.say(0, 4);
+        y.clear();
+        y.say(0, 5);
+        Checks.due("deliver", y.deliver(1, 0), OrderedCast.NONE);
+        y.crash(2);
+        Checks.due("suspect", y.suspect(0, 2), 0);
+    }
+}
