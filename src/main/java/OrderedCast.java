@@ -234,14 +234,6 @@ public final class OrderedCast {
         private int place;
         private int thing;
         private Log log;
-
-        private void set(int kind, int stage, int place, int thing, Log log) {
-            this.kind = kind;
-            this.stage = stage;
-            this.place = place;
-            this.thing = thing;
-            this.log = log;
-        }
     }
 
     /** A line from one node to another. Its packets are made once and used in turn. */
@@ -261,10 +253,16 @@ public final class OrderedCast {
         }
 
         private void put(int kind, int stage, int place, int thing, Log log) {
-            if (count < MOST_FLYING) {
-                look(count).set(kind, stage, place, thing, log);
-                count++;
+            if (count >= MOST_FLYING) {
+                return;
             }
+            Packet slot = slots[(first + count) % MOST_FLYING];
+            slot.kind = kind;
+            slot.stage = stage;
+            slot.place = place;
+            slot.thing = thing;
+            slot.log = log;
+            count++;
         }
 
         /** The packet stays as it is while it is received: its receiver writes only on its own lines. */
@@ -318,7 +316,7 @@ public final class OrderedCast {
         private void sendToOthers(int from, int kind, int stage, int place, int thing) {
             for (int to = 0; to < nodes; to++) {
                 if (to != from) {
-                    send(from, to, kind, stage, place, thing);
+                    line(from, to).put(kind, stage, place, thing, null);
                 }
             }
         }
@@ -331,7 +329,7 @@ public final class OrderedCast {
         private void sendLogToOthers(int from, int kind, int view, Log log) {
             for (int to = 0; to < nodes; to++) {
                 if (to != from) {
-                    sendLog(from, to, kind, view, log);
+                    line(from, to).put(kind, view, log.length, NONE, log);
                 }
             }
         }

@@ -3,7 +3,9 @@ import java.nio.file.Files;
 import java.nio.file.Path;
 import java.util.ArrayList;
 import java.util.List;
+import java.util.Map;
 import java.util.Set;
+import java.util.TreeMap;
 import java.util.TreeSet;
 import java.util.regex.Matcher;
 import java.util.regex.Pattern;
@@ -19,6 +21,8 @@ public final class LanguageTest {
     private static final Pattern METHOD =
             Pattern.compile("^( {4}| {8})((?:(?:public|private|static|final|abstract) )*)([\\w\\[\\]]+) (\\w+)\\(([^)]*)\\)");
 
+    private static final Map<String, String> bodies = new TreeMap<>();
+
     public static void main(String[] args) throws IOException {
         Path file = Path.of(args.length > 0 ? args[0] : ".", "src/main/java/OrderedCast.java");
         String text = Files.readString(file);
@@ -26,6 +30,7 @@ public final class LanguageTest {
         bannedWords(code);
         imports(code);
         methods(code);
+        depths();
         classes(code);
         Checks.due("signs beyond 127", text.chars().filter(c -> c > 127).count(), 0);
         Checks.end("language");
@@ -66,6 +71,8 @@ public final class LanguageTest {
                 end++;
             }
             Checks.due(name + ": too long", end - i > 60 ? 1 : 0, 0);
+            String body = String.join("\n", List.of(lines).subList(i + 1, Math.max(i + 1, Math.min(end, lines.length))));
+            bodies.merge(name, body, String::concat);
         }
         Checks.due("the face", faceNames.toString(),
                 "[at, clear, crash, deliver, flying, heard, hello, lose, packet, say, shared, suspect, thing, told]");
@@ -73,6 +80,28 @@ public final class LanguageTest {
             Checks.due("a method of one's own named " + name, faceNames.contains(name) ? 1 : 0, 0);
         }
         Checks.due("methods of one's own are found", ownNames.size() > 20 ? 1 : 0, 1);
+    }
+
+    /** Rule 11: calls go at most eight deep. Methods of one name count as one, which can only seem deeper. */
+    private static void depths() {
+        for (String name : bodies.keySet()) {
+            Checks.due("calls from " + name + " go too deep", depth(name, new TreeSet<>()) > 8 ? 1 : 0, 0);
+        }
+        Checks.due("the depth of deliver is found", depth("deliver", new TreeSet<>()) >= 6 ? 1 : 0, 1);
+    }
+
+    private static int depth(String name, TreeSet<String> above) {
+        int deepest = 0;
+        if (above.add(name)) {
+            Matcher m = Pattern.compile("(\\w+)\\(").matcher(bodies.get(name));
+            while (m.find()) {
+                if (bodies.containsKey(m.group(1))) {
+                    deepest = Math.max(deepest, depth(m.group(1), above));
+                }
+            }
+            above.remove(name);
+        }
+        return deepest + 1;
     }
 
     private static void classes(String code) {

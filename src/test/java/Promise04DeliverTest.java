@@ -10,6 +10,8 @@ public final class Promise04DeliverTest {
         stateWhenSettled();
         joining();
         newViewOpensAgain();
+        ordersThatArePassedOver();
+        newOfAnOldView();
         clocks();
         latestHeardIsTheTimeThatCame();
         equalTimes();
@@ -193,6 +195,58 @@ public final class Promise04DeliverTest {
         Checks.told(x, 2, 1, 1, 1, 1, 1, 1);
         Checks.due("ORDER", x.deliver(1, 2), 1);
         Checks.row(x, 2, 0, 1);
+    }
+
+    /** ORDER of an old view, and ORDER that comes to a node that is not settled, as its NEW was lost. */
+    private static void ordersThatArePassedOver() {
+        OrderedCast x = new OrderedCast(3, 0);
+        x.say(0, 1);
+        x.crash(0);
+        x.suspect(1, 0);
+        x.suspect(2, 0);
+        x.deliver(2, 1);
+        x.say(1, 2);
+        Checks.row(x, 1, 1);
+        Checks.due("not settled: ORDER of the old view", x.deliver(0, 2), 0);
+        x.lose(1, 2);
+        Checks.packet(x, 1, 2, 0, OrderedCast.ORDER, 1, 0, 1);
+        Checks.due("not settled: ORDER of its view", x.deliver(1, 2), 0);
+        Checks.told(x, 2, 1, 1, 0, 0, 0, 1);
+        OrderedCast y = new OrderedCast(3, 0);
+        y.say(0, 1);
+        y.crash(0);
+        y.suspect(1, 0);
+        y.suspect(2, 0);
+        y.deliver(2, 1);
+        y.deliver(1, 2);
+        Checks.told(y, 2, 1, 1, 1, 0, 0, 1);
+        Checks.due("settled: ORDER of the old view", y.deliver(0, 2), 0);
+        Checks.due("settled: ORDER of the old view", y.deliver(0, 1), 0);
+        Checks.told(y, 1, 1, 1, 1, 0, 0, 1);
+        Checks.told(y, 2, 1, 1, 1, 0, 0, 1);
+        Checks.due("no WANT", y.flying(2, 1), 0);
+    }
+
+    private static void newOfAnOldView() {
+        OrderedCast x = new OrderedCast(4, 0);
+        x.crash(0);
+        x.suspect(1, 0);
+        x.suspect(2, 0);
+        x.suspect(3, 0);
+        x.deliver(2, 1);
+        x.deliver(3, 1);
+        Checks.packet(x, 1, 3, 0, OrderedCast.NEW, 1, 0, OrderedCast.NONE);
+        x.crash(1);
+        x.suspect(3, 1);
+        Checks.due("NEW of the old view", x.deliver(1, 3), 0);
+        Checks.told(x, 3, 1, 2, 0, 0, 0, 2);
+        x.suspect(2, 1);
+        x.deliver(3, 2);
+        Checks.told(x, 2, 1, 2, 1, 0, 0, 2);
+        Checks.due("NEW of the old view, settled", x.deliver(1, 2), 0);
+        Checks.told(x, 2, 1, 2, 1, 0, 0, 2);
+        x.deliver(2, 3);
+        Checks.told(x, 3, 1, 2, 1, 0, 0, 2);
     }
 
     private static void clocks() {

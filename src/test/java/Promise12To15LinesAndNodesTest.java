@@ -173,5 +173,11 @@ public final class Promise12To15LinesAndNodesTest {
         Checks.due("deliver", y.deliver(1, 0), OrderedCast.NONE);
         y.crash(2);
         Checks.due("suspect", y.suspect(0, 2), 0);
+        y.clear();
+        y.say(1, 6);
+        y.hello(2);
+        Checks.due("what it had before clear it has no more", y.deliver(2, 0), 0);
+        Checks.due("SAID", y.deliver(1, 0), 1);
+        Checks.row(y, 0, 0);
     }
 }
