@@ -25,23 +25,25 @@ final class Checks {
         }
     }
 
-    static void bounds(String call, Runnable run) {
-        refused(call, IndexOutOfBoundsException.class, run);
+    static void bounds(Cast x, String call, Runnable run) {
+        refused(x, call, IndexOutOfBoundsException.class, run);
     }
 
-    static void argument(String call, Runnable run) {
-        refused(call, IllegalArgumentException.class, run);
+    static void argument(Cast x, String call, Runnable run) {
+        refused(x, call, IllegalArgumentException.class, run);
     }
 
-    static void state(String call, Runnable run) {
-        refused(call, IllegalStateException.class, run);
+    static void state(Cast x, String call, Runnable run) {
+        refused(x, call, IllegalStateException.class, run);
     }
 
-    static void unsupported(String call, Runnable run) {
-        refused(call, UnsupportedOperationException.class, run);
+    static void unsupported(Cast x, String call, Runnable run) {
+        refused(x, call, UnsupportedOperationException.class, run);
     }
 
-    private static void refused(String call, Class<? extends RuntimeException> kind, Runnable run) {
+    /** It throws just that, and a call that throws changes nothing. */
+    private static void refused(Cast x, String call, Class<? extends RuntimeException> kind, Runnable run) {
+        String before = x.whole();
         Object got = "nothing";
         try {
             run.run();
@@ -49,10 +51,11 @@ final class Checks {
             got = e.getClass();
         }
         due(call + " throws", got, kind);
+        due("all after " + call, x.whole(), before);
     }
 
     /** All things that a node heard, in order. */
-    static void row(OrderedCast x, int node, int... things) {
+    static void row(Cast x, int node, int... things) {
         List<Integer> want = new ArrayList<>();
         for (int one : things) {
             want.add(one);
@@ -65,51 +68,20 @@ final class Checks {
     }
 
     /** Alive, view or clock, settled, places, open, suspected. */
-    static void told(OrderedCast x, int node, int... answers) {
+    static void told(Cast x, int node, int... answers) {
         for (int what = 0; what < answers.length; what++) {
             due("told(" + node + ", " + what + ")", x.told(node, what), answers[what]);
         }
     }
 
     /** Kind, view or time, place or places, thing of packet k of a line. */
-    static void packet(OrderedCast x, int from, int to, int k, int... answers) {
+    static void packet(Cast x, int from, int to, int k, int... answers) {
         for (int what = 0; what < answers.length; what++) {
             due("packet(" + from + ", " + to + ", " + k + ", " + what + ")", x.packet(from, to, k, what), answers[what]);
         }
     }
 
-    /** What can be asked of an object, to see that a call that throws changes nothing. */
-    static String all(OrderedCast x) {
-        StringBuilder text = new StringBuilder();
-        int nodes = countNodes(x);
-        for (int node = 0; node < nodes; node++) {
-            for (int what = 0; what < 6; what++) {
-                text.append(x.told(node, what)).append(' ');
-            }
-            for (int k = 0; k < x.heard(node); k++) {
-                text.append(x.at(node, k)).append(',');
-            }
-            for (int to = 0; to < nodes; to++) {
-                text.append(node == to ? "" : line(x, node, to));
-            }
-        }
-        for (int thing = 0; thing < countThings(x); thing++) {
-            text.append(x.thing(thing, 0)).append('/').append(x.thing(thing, 1)).append('/').append(x.thing(thing, 2)).append(' ');
-        }
-        return text.toString();
-    }
-
-    private static String line(OrderedCast x, int from, int to) {
-        StringBuilder text = new StringBuilder("[");
-        for (int k = 0; k < x.flying(from, to); k++) {
-            for (int what = 0; what < 4; what++) {
-                text.append(x.packet(from, to, k, what)).append(' ');
-            }
-        }
-        return text.append(']').toString();
-    }
-
-    static int countNodes(OrderedCast x) {
+    static int countNodes(Cast x) {
         int nodes = 0;
         try {
             while (true) {
@@ -121,7 +93,7 @@ final class Checks {
         }
     }
 
-    static int countThings(OrderedCast x) {
+    static int countThings(Cast x) {
         int things = 0;
         try {
             while (true) {

@@ -25,21 +25,22 @@ public final class Promise01NewObjectTest {
         int[] due = {2, 2, 2, 2, 2, 3, 4, 5, 5, 5};
         for (int engine = 0; engine < 2; engine++) {
             for (int i = 0; i < asked.length; i++) {
-                Checks.due("nodes of " + asked[i], Checks.countNodes(new OrderedCast(asked[i], engine)), due[i]);
+                Checks.due("nodes of " + asked[i], Checks.countNodes(new Cast(asked[i], engine)), due[i]);
             }
         }
     }
 
     private static void engines() {
-        Checks.state("hello by numbers", () -> new OrderedCast(3, 0).hello(0));
+        Cast x = new Cast(3, 0);
+        Checks.state(x, "hello by numbers", () -> x.hello(0));
         for (int engine : new int[] {1, 2, -1, Integer.MIN_VALUE, Integer.MAX_VALUE}) {
-            Checks.due("hello by engine " + engine, new OrderedCast(3, engine).hello(0), 1);
+            Checks.due("hello by engine " + engine, new Cast(3, engine).hello(0), 1);
         }
     }
 
     private static void nothingWasSaid() {
         for (int engine = 0; engine < 2; engine++) {
-            OrderedCast x = new OrderedCast(5, engine);
+            Cast x = new Cast(5, engine);
             for (int node = 0; node < 5; node++) {
                 Checks.told(x, node, 1, 0, 1, 0, 0, 0);
                 Checks.due("heard", x.heard(node), 0);
@@ -49,7 +50,7 @@ public final class Promise01NewObjectTest {
                     }
                 }
             }
-            Checks.bounds("thing 0", () -> x.thing(0, 0));
+            Checks.bounds(x, "thing 0", () -> x.thing(0, 0));
         }
     }
 }

@@ -11,7 +11,7 @@ public final class Promise02SayTest {
     }
 
     private static void byLeader() {
-        OrderedCast x = new OrderedCast(4, 0);
+        Cast x = new Cast(4, 0);
         Checks.due("say", x.say(0, Integer.MIN_VALUE), 0);
         Checks.due("say", x.say(0, 6), 1);
         Checks.row(x, 0, 0, 1);
@@ -24,7 +24,7 @@ public final class Promise02SayTest {
     }
 
     private static void byAnother() {
-        OrderedCast x = new OrderedCast(3, 0);
+        Cast x = new Cast(3, 0);
         Checks.due("say", x.say(2, 5), 0);
         Checks.row(x, 2);
         Checks.told(x, 2, 1, 0, 1, 0, 1, 0);
@@ -34,7 +34,7 @@ public final class Promise02SayTest {
     }
 
     private static void whenNotSettled() {
-        OrderedCast x = new OrderedCast(3, 0);
+        Cast x = new Cast(3, 0);
         x.crash(0);
         x.suspect(2, 0);
         Checks.due("say", x.say(2, 5), 0);
@@ -48,7 +48,7 @@ public final class Promise02SayTest {
     }
 
     private static void byClocks() {
-        OrderedCast x = new OrderedCast(3, 1);
+        Cast x = new Cast(3, 1);
         Checks.due("say", x.say(1, 5), 0);
         Checks.due("say", x.say(1, 6), 1);
         Checks.told(x, 1, 1, 2, 1, 0, 0, 0);
@@ -62,7 +62,7 @@ public final class Promise02SayTest {
     }
 
     private static void toOneselfAlone() {
-        OrderedCast x = new OrderedCast(2, 1);
+        Cast x = new Cast(2, 1);
         x.crash(1);
         x.say(0, 1);
         Checks.row(x, 0);
@@ -74,19 +74,17 @@ public final class Promise02SayTest {
 
     private static void refusals() {
         for (int engine = 0; engine < 2; engine++) {
-            OrderedCast x = new OrderedCast(3, engine);
-            Checks.bounds("say of -1", () -> x.say(-1, 0));
-            Checks.bounds("say of 3", () -> x.say(3, 0));
+            Cast x = new Cast(3, engine);
+            Checks.bounds(x, "say of -1", () -> x.say(-1, 0));
+            Checks.bounds(x, "say of 3", () -> x.say(3, 0));
             x.crash(2);
-            Checks.state("say of a crashed one", () -> x.say(2, 0));
+            Checks.state(x, "say of a crashed one", () -> x.say(2, 0));
             for (int i = 0; i < 60; i++) {
                 Checks.due("say", x.say(i % 2, i), i);
             }
-            String before = Checks.all(x);
-            Checks.unsupported("thing 60", () -> x.say(0, 0));
-            Checks.bounds("thing 60 of no node", () -> x.say(3, 0));
-            Checks.state("thing 60 of a crashed one", () -> x.say(2, 0));
-            Checks.due("nothing changed", Checks.all(x), before);
+            Checks.unsupported(x, "thing 60", () -> x.say(0, 0));
+            Checks.bounds(x, "thing 60 of no node", () -> x.say(3, 0));
+            Checks.state(x, "thing 60 of a crashed one", () -> x.say(2, 0));
         }
     }
 }

@@ -1,7 +1,7 @@
 /** Promise 3: hello. */
 public final class Promise03HelloTest {
     public static void main(String[] args) {
-        OrderedCast x = new OrderedCast(3, 1);
+        Cast x = new Cast(3, 1);
         Checks.due("hello", x.hello(1), 1);
         Checks.due("hello", x.hello(1), 2);
         for (int to = 0; to < 3; to += 2) {
@@ -18,15 +18,15 @@ public final class Promise03HelloTest {
     }
 
     private static void refusals() {
-        OrderedCast x = new OrderedCast(3, 1);
+        Cast x = new Cast(3, 1);
         x.crash(0);
-        Checks.bounds("hello of -1", () -> x.hello(-1));
-        Checks.bounds("hello of 3", () -> x.hello(3));
-        Checks.state("hello of a crashed one", () -> x.hello(0));
+        Checks.bounds(x, "hello of -1", () -> x.hello(-1));
+        Checks.bounds(x, "hello of 3", () -> x.hello(3));
+        Checks.state(x, "hello of a crashed one", () -> x.hello(0));
         Checks.due("nothing flies", x.flying(0, 1), 0);
-        OrderedCast y = new OrderedCast(3, 0);
-        Checks.state("hello by numbers", () -> y.hello(0));
-        Checks.bounds("hello of no node by numbers", () -> y.hello(3));
+        Cast y = new Cast(3, 0);
+        Checks.state(y, "hello by numbers", () -> y.hello(0));
+        Checks.bounds(y, "hello of no node by numbers", () -> y.hello(3));
         Checks.due("nothing flies", y.flying(0, 1), 0);
         Checks.told(y, 0, 1, 0, 1, 0, 0, 0);
     }

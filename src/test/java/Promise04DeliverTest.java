@@ -22,7 +22,7 @@ public final class Promise04DeliverTest {
     }
 
     private static void asks() {
-        OrderedCast x = new OrderedCast(3, 0);
+        Cast x = new Cast(3, 0);
         x.say(1, 5);
         x.say(0, 6);
         Checks.due("ASK", x.deliver(1, 0), 1);
@@ -39,7 +39,7 @@ public final class Promise04DeliverTest {
     }
 
     private static void askOfAnotherView() {
-        OrderedCast x = new OrderedCast(3, 0);
+        Cast x = new Cast(3, 0);
         x.say(2, 5);
         x.crash(0);
         x.suspect(1, 0);
@@ -52,7 +52,7 @@ public final class Promise04DeliverTest {
     }
 
     private static void ordersAndWants() {
-        OrderedCast x = new OrderedCast(2, 0);
+        Cast x = new Cast(2, 0);
         for (int i = 0; i < 4; i++) {
             x.say(0, i);
         }
@@ -79,7 +79,7 @@ public final class Promise04DeliverTest {
     }
 
     private static void wantOfAnotherView() {
-        OrderedCast x = new OrderedCast(3, 0);
+        Cast x = new Cast(3, 0);
         x.say(0, 1);
         x.say(0, 2);
         x.lose(0, 2);
@@ -91,7 +91,7 @@ public final class Promise04DeliverTest {
     }
 
     private static void statesAndNew() {
-        OrderedCast x = new OrderedCast(3, 0);
+        Cast x = new Cast(3, 0);
         x.say(0, 1);
         x.say(0, 2);
         x.lose(0, 2);
@@ -119,7 +119,7 @@ public final class Promise04DeliverTest {
     }
 
     private static void stateMovesALeader() {
-        OrderedCast x = new OrderedCast(3, 0);
+        Cast x = new Cast(3, 0);
         x.crash(0);
         x.suspect(2, 0);
         Checks.due("STATE of a higher view", x.deliver(2, 1), 0);
@@ -131,7 +131,7 @@ public final class Promise04DeliverTest {
     }
 
     private static void stateWhenSettled() {
-        OrderedCast x = new OrderedCast(4, 0);
+        Cast x = new Cast(4, 0);
         x.crash(0);
         x.suspect(3, 0);
         x.crash(3);
@@ -152,7 +152,7 @@ public final class Promise04DeliverTest {
 
     /** A STATE that came before its node crashed counts in the join, also when that node is suspected. */
     private static void joining() {
-        OrderedCast x = new OrderedCast(4, 0);
+        Cast x = new Cast(4, 0);
         for (int i = 0; i < 3; i++) {
             x.say(0, i);
         }
@@ -176,7 +176,7 @@ public final class Promise04DeliverTest {
     }
 
     private static void newViewOpensAgain() {
-        OrderedCast x = new OrderedCast(3, 0);
+        Cast x = new Cast(3, 0);
         x.say(2, 1);
         x.say(2, 2);
         x.deliver(2, 0);
@@ -199,7 +199,7 @@ public final class Promise04DeliverTest {
 
     /** ORDER of an old view, and ORDER that comes to a node that is not settled, as its NEW was lost. */
     private static void ordersThatArePassedOver() {
-        OrderedCast x = new OrderedCast(3, 0);
+        Cast x = new Cast(3, 0);
         x.say(0, 1);
         x.crash(0);
         x.suspect(1, 0);
@@ -212,7 +212,7 @@ public final class Promise04DeliverTest {
         Checks.packet(x, 1, 2, 0, OrderedCast.ORDER, 1, 0, 1);
         Checks.due("not settled: ORDER of its view", x.deliver(1, 2), 0);
         Checks.told(x, 2, 1, 1, 0, 0, 0, 1);
-        OrderedCast y = new OrderedCast(3, 0);
+        Cast y = new Cast(3, 0);
         y.say(0, 1);
         y.crash(0);
         y.suspect(1, 0);
@@ -228,7 +228,7 @@ public final class Promise04DeliverTest {
     }
 
     private static void newOfAnOldView() {
-        OrderedCast x = new OrderedCast(4, 0);
+        Cast x = new Cast(4, 0);
         x.crash(0);
         x.suspect(1, 0);
         x.suspect(2, 0);
@@ -250,7 +250,7 @@ public final class Promise04DeliverTest {
     }
 
     private static void clocks() {
-        OrderedCast x = new OrderedCast(3, 1);
+        Cast x = new Cast(3, 1);
         x.say(0, 5);
         Checks.due("SAID", x.deliver(0, 1), 0);
         Checks.told(x, 1, 1, 2, 1, 0, 0, 0);
@@ -267,7 +267,7 @@ public final class Promise04DeliverTest {
     }
 
     private static void latestHeardIsTheTimeThatCame() {
-        OrderedCast x = new OrderedCast(3, 1);
+        Cast x = new Cast(3, 1);
         x.say(1, 1);
         x.hello(2);
         x.hello(2);
@@ -280,7 +280,7 @@ public final class Promise04DeliverTest {
     }
 
     private static void equalTimes() {
-        OrderedCast x = new OrderedCast(3, 1);
+        Cast x = new Cast(3, 1);
         x.say(2, 1);
         x.say(1, 2);
         x.say(0, 3);
@@ -296,7 +296,7 @@ public final class Promise04DeliverTest {
 
     private static void crashedOnes() {
         for (int engine = 0; engine < 2; engine++) {
-            OrderedCast x = new OrderedCast(2, engine);
+            Cast x = new Cast(2, engine);
             x.say(0, 1);
             x.crash(1);
             Checks.due("flying", x.flying(0, 1), 1);
@@ -307,7 +307,7 @@ public final class Promise04DeliverTest {
             Checks.told(x, 1, 0, 0, 1, 0, 0, 0);
             x.say(0, 2);
             Checks.due("more goes to a crashed one", x.flying(0, 1), 1);
-            OrderedCast y = new OrderedCast(2, engine);
+            Cast y = new Cast(2, engine);
             y.say(0, 1);
             y.crash(0);
             Checks.due("from a crashed one", y.deliver(0, 1), 1);
@@ -316,7 +316,7 @@ public final class Promise04DeliverTest {
 
     private static void fullLines() {
         for (int engine = 0; engine < 2; engine++) {
-            OrderedCast x = new OrderedCast(2, engine);
+            Cast x = new Cast(2, engine);
             for (int i = 0; i < 41; i++) {
                 x.say(0, i);
             }
@@ -333,15 +333,13 @@ public final class Promise04DeliverTest {
 
     private static void refusals() {
         for (int engine = 0; engine < 2; engine++) {
-            OrderedCast x = new OrderedCast(3, engine);
+            Cast x = new Cast(3, engine);
             x.say(0, 1);
-            String before = Checks.all(x);
-            Checks.bounds("deliver from -1", () -> x.deliver(-1, 0));
-            Checks.bounds("deliver from 3", () -> x.deliver(3, 3));
-            Checks.bounds("deliver to 3", () -> x.deliver(0, 3));
-            Checks.bounds("deliver to -1", () -> x.deliver(0, -1));
-            Checks.argument("deliver to oneself", () -> x.deliver(0, 0));
-            Checks.due("nothing changed", Checks.all(x), before);
+            Checks.bounds(x, "deliver from -1", () -> x.deliver(-1, 0));
+            Checks.bounds(x, "deliver from 3", () -> x.deliver(3, 3));
+            Checks.bounds(x, "deliver to 3", () -> x.deliver(0, 3));
+            Checks.bounds(x, "deliver to -1", () -> x.deliver(0, -1));
+            Checks.argument(x, "deliver to oneself", () -> x.deliver(0, 0));
         }
     }
 }

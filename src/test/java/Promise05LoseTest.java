@@ -1,7 +1,7 @@
 /** Promise 5: lose. */
 public final class Promise05LoseTest {
     public static void main(String[] args) {
-        OrderedCast x = new OrderedCast(3, 0);
+        Cast x = new Cast(3, 0);
         Checks.due("lose of an empty line", x.lose(0, 1), OrderedCast.NONE);
         x.say(0, 1);
         x.say(0, 2);
@@ -22,18 +22,18 @@ public final class Promise05LoseTest {
     }
 
     private static void refusals() {
-        OrderedCast x = new OrderedCast(3, 0);
+        Cast x = new Cast(3, 0);
         x.say(0, 1);
-        Checks.bounds("lose from 3", () -> x.lose(3, 0));
-        Checks.bounds("lose to -1", () -> x.lose(0, -1));
-        Checks.bounds("lose from 3 to 3", () -> x.lose(3, 3));
-        Checks.argument("lose to oneself", () -> x.lose(1, 1));
-        OrderedCast y = new OrderedCast(3, 1);
+        Checks.bounds(x, "lose from 3", () -> x.lose(3, 0));
+        Checks.bounds(x, "lose to -1", () -> x.lose(0, -1));
+        Checks.bounds(x, "lose from 3 to 3", () -> x.lose(3, 3));
+        Checks.argument(x, "lose to oneself", () -> x.lose(1, 1));
+        Cast y = new Cast(3, 1);
         y.hello(0);
-        Checks.state("lose by clocks", () -> y.lose(0, 1));
-        Checks.state("lose of an empty line by clocks", () -> y.lose(1, 0));
-        Checks.argument("lose to oneself by clocks", () -> y.lose(1, 1));
-        Checks.bounds("lose of no node by clocks", () -> y.lose(0, 3));
+        Checks.state(y, "lose by clocks", () -> y.lose(0, 1));
+        Checks.state(y, "lose of an empty line by clocks", () -> y.lose(1, 0));
+        Checks.argument(y, "lose to oneself by clocks", () -> y.lose(1, 1));
+        Checks.bounds(y, "lose of no node by clocks", () -> y.lose(0, 3));
         Checks.due("nothing is lost", y.flying(0, 1), 1);
     }
 }

@@ -2,7 +2,7 @@
 public final class Promise06CrashTest {
     public static void main(String[] args) {
         for (int engine = 0; engine < 2; engine++) {
-            OrderedCast x = new OrderedCast(3, engine);
+            Cast x = new Cast(3, engine);
             x.say(1, 4);
             int stage = x.told(1, 1);
             x.crash(1);
@@ -10,15 +10,15 @@ public final class Promise06CrashTest {
             Checks.told(x, 0, 1);
             Checks.told(x, 2, 1);
             Checks.due("what flies from it stays", x.flying(1, 0), 1);
-            Checks.state("crash again", () -> x.crash(1));
-            Checks.state("say", () -> x.say(1, 0));
-            Checks.state("hello", () -> x.hello(1));
+            Checks.state(x, "crash again", () -> x.crash(1));
+            Checks.state(x, "say", () -> x.say(1, 0));
+            Checks.state(x, "hello", () -> x.hello(1));
             x.crash(0);
-            Checks.state("suspect", () -> x.suspect(1, 0));
+            Checks.state(x, "suspect", () -> x.suspect(1, 0));
             x.crash(2);
             Checks.told(x, 2, 0);
-            Checks.bounds("crash of -1", () -> x.crash(-1));
-            Checks.bounds("crash of 3", () -> x.crash(3));
+            Checks.bounds(x, "crash of -1", () -> x.crash(-1));
+            Checks.bounds(x, "crash of 3", () -> x.crash(3));
             Checks.due("thing", x.thing(0, 1), 4);
         }
         Checks.end("promise 6");

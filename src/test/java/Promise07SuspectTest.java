@@ -13,7 +13,7 @@ public final class Promise07SuspectTest {
     }
 
     private static void theLeader() {
-        OrderedCast x = new OrderedCast(3, 0);
+        Cast x = new Cast(3, 0);
         x.say(0, 1);
         x.deliver(0, 2);
         x.crash(0);
@@ -27,7 +27,7 @@ public final class Promise07SuspectTest {
     }
 
     private static void anotherThanTheLeader() {
-        OrderedCast x = new OrderedCast(3, 0);
+        Cast x = new Cast(3, 0);
         x.crash(2);
         Checks.due("suspect", x.suspect(0, 2), 0);
         Checks.told(x, 0, 1, 0, 1, 0, 0, 1);
@@ -37,7 +37,7 @@ public final class Promise07SuspectTest {
     }
 
     private static void oneAfterTheOther() {
-        OrderedCast x = new OrderedCast(4, 0);
+        Cast x = new Cast(4, 0);
         x.crash(0);
         x.crash(1);
         x.suspect(3, 0);
@@ -55,7 +55,7 @@ public final class Promise07SuspectTest {
     }
 
     private static void theNextLeaderAlone() {
-        OrderedCast x = new OrderedCast(2, 0);
+        Cast x = new Cast(2, 0);
         for (int i = 0; i < 3; i++) {
             x.say(0, i);
         }
@@ -72,7 +72,7 @@ public final class Promise07SuspectTest {
     }
 
     private static void passedOverLeaders() {
-        OrderedCast x = new OrderedCast(5, 0);
+        Cast x = new Cast(5, 0);
         for (int i = 0; i < 3; i++) {
             x.crash(i);
         }
@@ -91,7 +91,7 @@ public final class Promise07SuspectTest {
     }
 
     private static void byClocks() {
-        OrderedCast x = new OrderedCast(3, 1);
+        Cast x = new Cast(3, 1);
         x.say(0, 1);
         x.say(0, 2);
         x.hello(1);
@@ -110,7 +110,7 @@ public final class Promise07SuspectTest {
 
     /** Not in one order, as something still flies from the one that is suspected. */
     private static void byClocksOutOfOrder() {
-        OrderedCast x = new OrderedCast(2, 1);
+        Cast x = new Cast(2, 1);
         x.say(1, 1);
         x.say(0, 2);
         x.hello(0);
@@ -122,25 +122,23 @@ public final class Promise07SuspectTest {
 
     private static void refusals() {
         for (int engine = 0; engine < 2; engine++) {
-            OrderedCast x = new OrderedCast(4, engine);
+            Cast x = new Cast(4, engine);
             x.crash(1);
             x.crash(2);
             x.suspect(0, 1);
-            String before = Checks.all(x);
-            Checks.bounds("suspect of -1", () -> x.suspect(-1, -1));
-            Checks.bounds("suspect of 4", () -> x.suspect(4, 1));
-            Checks.bounds("suspect another 4", () -> x.suspect(2, 4));
-            Checks.bounds("suspect another -1", () -> x.suspect(0, -1));
-            Checks.argument("suspect oneself", () -> x.suspect(0, 0));
-            Checks.argument("suspect one that is alive", () -> x.suspect(0, 3));
-            Checks.argument("suspect again", () -> x.suspect(0, 1));
-            Checks.state("a crashed one suspects", () -> x.suspect(1, 2));
-            Checks.argument("a crashed one suspects itself", () -> x.suspect(1, 1));
-            Checks.argument("a crashed one suspects one that is alive", () -> x.suspect(1, 3));
-            Checks.due("nothing changed", Checks.all(x), before);
+            Checks.bounds(x, "suspect of -1", () -> x.suspect(-1, -1));
+            Checks.bounds(x, "suspect of 4", () -> x.suspect(4, 1));
+            Checks.bounds(x, "suspect another 4", () -> x.suspect(2, 4));
+            Checks.bounds(x, "suspect another -1", () -> x.suspect(0, -1));
+            Checks.argument(x, "suspect oneself", () -> x.suspect(0, 0));
+            Checks.argument(x, "suspect one that is alive", () -> x.suspect(0, 3));
+            Checks.argument(x, "suspect again", () -> x.suspect(0, 1));
+            Checks.state(x, "a crashed one suspects", () -> x.suspect(1, 2));
+            Checks.argument(x, "a crashed one suspects itself", () -> x.suspect(1, 1));
+            Checks.argument(x, "a crashed one suspects one that is alive", () -> x.suspect(1, 3));
             x.crash(0);
-            Checks.argument("a crashed one suspects again", () -> x.suspect(0, 1));
-            Checks.state("a crashed one suspects", () -> x.suspect(0, 2));
+            Checks.argument(x, "a crashed one suspects again", () -> x.suspect(0, 1));
+            Checks.state(x, "a crashed one suspects", () -> x.suspect(0, 2));
         }
     }
 }

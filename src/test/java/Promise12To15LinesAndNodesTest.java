@@ -14,7 +14,7 @@ public final class Promise12To15LinesAndNodesTest {
     }
 
     private static void flying() {
-        OrderedCast x = new OrderedCast(3, 0);
+        Cast x = new Cast(3, 0);
         Checks.due("flying", x.flying(2, 0), 0);
         x.say(2, 1);
         x.say(2, 2);
@@ -26,13 +26,13 @@ public final class Promise12To15LinesAndNodesTest {
         x.crash(0);
         x.crash(2);
         Checks.due("flying between crashed ones", x.flying(2, 0), 1);
-        Checks.bounds("flying from -1", () -> x.flying(-1, -1));
-        Checks.bounds("flying to 3", () -> x.flying(0, 3));
-        Checks.argument("flying to oneself", () -> x.flying(1, 1));
+        Checks.bounds(x, "flying from -1", () -> x.flying(-1, -1));
+        Checks.bounds(x, "flying to 3", () -> x.flying(0, 3));
+        Checks.argument(x, "flying to oneself", () -> x.flying(1, 1));
     }
 
     private static void packets() {
-        OrderedCast x = new OrderedCast(3, 0);
+        Cast x = new Cast(3, 0);
         x.say(2, 1);
         x.say(0, 2);
         x.say(0, 3);
@@ -41,7 +41,7 @@ public final class Promise12To15LinesAndNodesTest {
         x.lose(0, 2);
         x.deliver(0, 2);
         Checks.packet(x, 2, 0, 1, OrderedCast.WANT, 0, 0, OrderedCast.NONE);
-        OrderedCast y = new OrderedCast(2, 1);
+        Cast y = new Cast(2, 1);
         y.hello(0);
         y.say(0, 1);
         Checks.packet(y, 0, 1, 0, OrderedCast.HELLO, 1, OrderedCast.NONE, OrderedCast.NONE);
@@ -49,21 +49,21 @@ public final class Promise12To15LinesAndNodesTest {
     }
 
     private static void packetRefusals() {
-        OrderedCast x = new OrderedCast(3, 0);
+        Cast x = new Cast(3, 0);
         x.say(0, 1);
-        Checks.bounds("packet from 3", () -> x.packet(3, 0, 0, 0));
-        Checks.bounds("packet to -1", () -> x.packet(0, -1, 0, 0));
-        Checks.bounds("packet 1", () -> x.packet(0, 1, 1, 0));
-        Checks.bounds("packet -1", () -> x.packet(0, 1, -1, 0));
-        Checks.bounds("packet 1 and what 4", () -> x.packet(0, 1, 1, 4));
-        Checks.bounds("packet to oneself", () -> x.packet(1, 1, 0, 0));
-        Checks.argument("what 4", () -> x.packet(0, 1, 0, 4));
-        Checks.argument("what -1", () -> x.packet(0, 1, 0, -1));
+        Checks.bounds(x, "packet from 3", () -> x.packet(3, 0, 0, 0));
+        Checks.bounds(x, "packet to -1", () -> x.packet(0, -1, 0, 0));
+        Checks.bounds(x, "packet 1", () -> x.packet(0, 1, 1, 0));
+        Checks.bounds(x, "packet -1", () -> x.packet(0, 1, -1, 0));
+        Checks.bounds(x, "packet 1 and what 4", () -> x.packet(0, 1, 1, 4));
+        Checks.bounds(x, "packet to oneself", () -> x.packet(1, 1, 0, 0));
+        Checks.argument(x, "what 4", () -> x.packet(0, 1, 0, 4));
+        Checks.argument(x, "what -1", () -> x.packet(0, 1, 0, -1));
     }
 
     /** What flies tells the log as it was when it was sent. */
     private static void logsOfPackets() {
-        OrderedCast x = new OrderedCast(3, 0);
+        Cast x = new Cast(3, 0);
         for (int i = 0; i < 3; i++) {
             x.say(0, i);
         }
@@ -86,7 +86,7 @@ public final class Promise12To15LinesAndNodesTest {
     }
 
     private static void toldByNumbers() {
-        OrderedCast x = new OrderedCast(3, 0);
+        Cast x = new Cast(3, 0);
         x.say(1, 1);
         x.say(1, 2);
         Checks.told(x, 1, 1, 0, 1, 0, 2, 0);
@@ -104,7 +104,7 @@ public final class Promise12To15LinesAndNodesTest {
     }
 
     private static void toldByClocks() {
-        OrderedCast x = new OrderedCast(3, 1);
+        Cast x = new Cast(3, 1);
         x.say(1, 1);
         x.hello(1);
         x.crash(0);
@@ -118,18 +118,18 @@ public final class Promise12To15LinesAndNodesTest {
 
     private static void toldRefusals() {
         for (int engine = 0; engine < 2; engine++) {
-            OrderedCast x = new OrderedCast(3, engine);
-            Checks.bounds("told of -1", () -> x.told(-1, 0));
-            Checks.bounds("told of 3", () -> x.told(3, 9));
-            Checks.argument("what 6", () -> x.told(0, 6));
-            Checks.argument("what -1", () -> x.told(0, -1));
+            Cast x = new Cast(3, engine);
+            Checks.bounds(x, "told of -1", () -> x.told(-1, 0));
+            Checks.bounds(x, "told of 3", () -> x.told(3, 9));
+            Checks.argument(x, "what 6", () -> x.told(0, 6));
+            Checks.argument(x, "what -1", () -> x.told(0, -1));
         }
     }
 
     private static void clearing() {
         for (int engine = 0; engine < 2; engine++) {
-            OrderedCast x = new OrderedCast(4, engine);
-            String first = Checks.all(x);
+            Cast x = new Cast(4, engine);
+            String first = x.whole();
             x.say(0, 1);
             x.say(1, 2);
             x.deliver(1, 0);
@@ -138,7 +138,7 @@ public final class Promise12To15LinesAndNodesTest {
             x.suspect(1, 0);
             x.suspect(3, 0);
             x.clear();
-            Checks.due("after clear", Checks.all(x), first);
+            Checks.due("after clear", x.whole(), first);
             Checks.due("nodes", Checks.countNodes(x), 4);
             Checks.due("say", x.say(1, 3), 0);
             Checks.due("time", x.thing(0, 2), engine);
@@ -147,13 +147,13 @@ public final class Promise12To15LinesAndNodesTest {
             Checks.due("heard", x.heard(0), engine == 0 ? 1 : 0);
             x.clear();
             x.clear();
-            Checks.due("after clear", Checks.all(x), first);
+            Checks.due("after clear", x.whole(), first);
         }
     }
 
     /** What a leader kept of its STATES, and what a clock heard of others, is gone too. */
     private static void clearingStates() {
-        OrderedCast x = new OrderedCast(3, 0);
+        Cast x = new Cast(3, 0);
         x.crash(0);
         x.suspect(2, 0);
         x.deliver(2, 1);
@@ -161,7 +161,7 @@ public final class Promise12To15LinesAndNodesTest {
         x.crash(0);
         x.suspect(1, 0);
         Checks.told(x, 1, 1, 1, 0, 0, 0, 1);
-        OrderedCast y = new OrderedCast(3, 1);
+        Cast y = new Cast(3, 1);
         for (int i = 0; i < 3; i++) {
             y.hello(1);
             y.deliver(1, 0);
