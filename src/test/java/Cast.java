@@ -82,6 +82,20 @@ final class Cast {
         });
     }
 
+    /** The leader of the view before crashes; all behind it suspect that, and settle in this view by STATE and NEW. */
+    void goToView(int view, int nodes) {
+        crash(view - 1);
+        for (int node = view; node < nodes; node++) {
+            suspect(node, view - 1);
+        }
+        for (int node = view + 1; node < nodes; node++) {
+            deliver(node, view);
+        }
+        for (int node = view + 1; node < nodes; node++) {
+            deliver(view, node);
+        }
+    }
+
     int calls() {
         return calls.size();
     }

@@ -286,7 +286,7 @@ public final class EdgeAnswersTest {
         Checks.packet(x, 1, 0, 1, OrderedCast.SAID, 2, NONE, 0);
     }
 
-    /** "its view .. (1), whether it is settled, 1 or 0 (2), places .. (3), open things (4)". */
+    /** "its view, or clock (1), whether it is settled, 1 or 0 (2", "places of its log up to the last one", "open things". */
     private static void toldByNumbers() {
         Cast x = new Cast(3, 0);
         x.say(2, 1);
@@ -307,7 +307,7 @@ public final class EdgeAnswersTest {
         Checks.told(x, 1, 1, 0, 1, 0, 1, 0);
     }
 
-    /** "or clock (1)", "by clocks 1 (2)", "by clocks 0 (3)", "by clocks 0 (4)": whatever was said, heard or suspected. */
+    /** "(2; by clocks 1)", "(3; by clocks 0)", "(4; by clocks 0)": whatever was said, heard or suspected. */
     private static void toldByClocks() {
         Cast x = new Cast(3, 1);
         x.say(1, 5);

@@ -72,9 +72,10 @@ public final class EdgeClearTest {
     private static void holesInTheNextView(Cast x) {
         gaps(x);
         x.crash(0);
-        for (int node = 1; node < Checks.countNodes(x); node++) {
+        x.suspect(1, 0);
+        for (int node = 2; node < Checks.countNodes(x); node++) {
             x.suspect(node, 0);
-            x.deliver(node, 1 == node ? 0 : 1);
+            x.deliver(node, 1);
         }
         x.say(1, 6);
         x.deliver(1, 2);

@@ -332,7 +332,7 @@ public final class EdgeLogsTest {
             x.deliver(4, leader);
             Checks.due("ORDER behind many gaps", x.deliver(leader, 4), 0);
             Checks.due("places", x.told(4, 3), places[leader]);
-            goOn(x, leader + 1);
+            x.goToView(leader + 1, 5);
         }
         Checks.told(x, 4, 1, 4, 1, 161, 0, 4);
         Checks.row(x, 4, 3, 7, 11, 59, 15, 19, 23, 27, 31, 35, 39, 43, 47, 51, 55);
@@ -341,20 +341,6 @@ public final class EdgeLogsTest {
     private static void deliver(Cast x, int from, int to, int packets) {
         for (int i = 0; i < packets; i++) {
             x.deliver(from, to);
-        }
-    }
-
-    /** The leader before crashes, all behind it suspect that, and get NEW of their view. */
-    private static void goOn(Cast x, int leader) {
-        x.crash(leader - 1);
-        for (int node = leader; node < 5; node++) {
-            x.suspect(node, leader - 1);
-        }
-        for (int node = leader + 1; node < 5; node++) {
-            x.deliver(node, leader);
-        }
-        for (int node = leader + 1; node < 5; node++) {
-            x.deliver(leader, node);
         }
     }
 }

@@ -66,14 +66,11 @@ public final class EdgeNodesAndEngineTest {
     private static void play(Cast x, int nodes) {
         for (int node = 0; node < nodes; node++) {
             x.say(node, node);
-            x.deliver(node, 0 == node ? 1 : 0);
+            x.deliver(node, node == 0 ? 1 : 0);
         }
-        for (int leader = 0; leader < nodes - 1; leader++) {
-            x.crash(leader);
-            for (int node = leader + 1; node < nodes; node++) {
-                x.suspect(node, leader);
-            }
-            x.deliver(nodes - 1, leader + 1 < nodes - 1 ? leader + 1 : 0);
+        for (int view = 1; view < nodes; view++) {
+            x.goToView(view, nodes);
+            x.say(nodes - 1, view);
         }
     }
 

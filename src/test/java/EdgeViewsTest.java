@@ -13,26 +13,13 @@ public final class EdgeViewsTest {
         whatIsOpenIsNumbered();
         whatIsOpenIsAskedFor();
         notSettledNothingIsAsked();
+        ordersOfItsOwnViewBeingSettled();
         stateWhenSettled();
         newOfAViewThatWasLeft();
         anotherThanTheLeader();
         whoSuspectsWhom();
         oneOrderOfThoseThatDoNotCrash();
         Checks.end("edges: views");
-    }
-
-    /** The leader of the view before crashes, and all that are alive settle in this view. */
-    private static void settleAll(Cast x, int nodes, int view) {
-        x.crash(view - 1);
-        for (int node = view; node < nodes; node++) {
-            x.suspect(node, view - 1);
-        }
-        for (int node = view + 1; node < nodes; node++) {
-            x.deliver(node, view);
-        }
-        for (int node = view + 1; node < nodes; node++) {
-            x.deliver(view, node);
-        }
     }
 
     /** "a node is in a VIEW, at first 0; the LEADER of view v is the node that is the rest of v": up to the last one. */
@@ -65,7 +52,7 @@ public final class EdgeViewsTest {
             int last = nodes - 1;
             for (int view = 0; view < last; view++) {
                 if (view > 0) {
-                    settleAll(x, nodes, view);
+                    x.goToView(view, nodes);
                 }
                 Checks.due("say", x.say(last, view), view);
                 Checks.due("ASK to the leader", x.flying(last, view), 1);
@@ -275,6 +262,33 @@ public final class EdgeViewsTest {
         x.say(2, 3);
         Checks.due("settled again: ASK at once", x.flying(2, 1), 3);
         Checks.packet(x, 2, 1, 2, OrderedCast.ASK, 1, OrderedCast.NONE, 2);
+    }
+
+    /** "ORDER .. that a node gets of its own view, being settled": any other one is passed over, and WANT does not fly. */
+    private static void ordersOfItsOwnViewBeingSettled() {
+        Cast x = new Cast(3, 0);
+        for (int i = 0; i < 4; i++) {
+            x.say(0, i);
+        }
+        Checks.due("settled, of its own view", x.deliver(0, 2), 1);
+        x.crash(0);
+        x.suspect(2, 0);
+        Checks.due("not settled, of the old view", x.deliver(0, 2), 0);
+        x.suspect(1, 0);
+        Checks.due("STATE", x.deliver(2, 1), 1);
+        x.say(1, 9);
+        Checks.due("NEW is lost", x.lose(1, 2), 1);
+        Checks.packet(x, 1, 2, 0, OrderedCast.ORDER, 1, 1, 4);
+        Checks.due("not settled, of its own view", x.deliver(1, 2), 0);
+        Checks.told(x, 2, 1, 1, 0, 1, 0, 1);
+        for (int place = 0; place < 4; place++) {
+            Checks.packet(x, 0, 1, 0, OrderedCast.ORDER, 0, place, place);
+            Checks.due("settled, of the old view", x.deliver(0, 1), 0);
+        }
+        Checks.told(x, 1, 1, 1, 1, 2, 0, 1);
+        Checks.row(x, 1, 0, 4);
+        Checks.due("no WANT to the new leader", x.flying(2, 1), 0);
+        Checks.due("NEW and ORDER to the old one, and no WANT", x.flying(1, 0), 2);
     }
 
     /** "A STATE of its view that comes when it is settled: NEW goes to that one": not to all, and the log of now. */

@@ -1,7 +1,11 @@
 import java.io.IOException;
+import java.lang.reflect.Constructor;
+import java.lang.reflect.Field;
+import java.lang.reflect.Method;
+import java.lang.reflect.Modifier;
 import java.nio.file.Files;
 import java.nio.file.Path;
-import java.util.ArrayList;
+import java.util.Arrays;
 import java.util.List;
 import java.util.Map;
 import java.util.Set;
@@ -9,77 +13,148 @@ import java.util.TreeMap;
 import java.util.TreeSet;
 import java.util.regex.Matcher;
 import java.util.regex.Pattern;
+import java.util.stream.Collectors;
 
-/** Those rules of ../shared/LANGUAGE.md that can be seen from the text of the program. */
+/** The document's face, and those rules of ../shared/LANGUAGE.md that can be seen from the class or its text. */
 public final class LanguageTest {
-    private static final List<String> BANNED = List.of("->", "::", "\\bfinally\\b", "\\bsynchronized\\b",
-            "\\bassert\\b", "\\bvolatile\\b", "\\bThread\\b", "\\bRandom\\b", "\\bSystem\\.(?!arraycopy)", "\\bgetMessage\\b",
-            "\\btoString\\b", "\\bequals\\b", "\\bhashCode\\b", "\\bObject\\b", "Exact\\(", "\\bStream\\b", "\\bvar\\b",
-            "\\bpackage\\b", "\"", "\\bMap\\b", "@", "\\bfor \\(;;\\)", "while \\(true\\)");
-    private static final Set<String> IMPORTS =
-            Set.of("java.util.Arrays", "java.util.ArrayList", "java.util.List", "java.util.Iterator");
+    /** Rule 2, 3, 4, 5, 6, 9 and 13: what no program within them has, and the rule's number. */
+    private static final Map<String, Integer> BANNED = new TreeMap<>(Map.ofEntries(
+            Map.entry("::", 2), Map.entry("\\)\\s*->", 2), Map.entry("\\bObject\\b", 3), Map.entry("\\bMap\\b", 3),
+            Map.entry("Exact\\(", 4), Map.entry("\\bSystem\\.(?!arraycopy)", 4), Map.entry("\\bstatic\\s*\\{", 5),
+            Map.entry("\\bfinally\\b", 6), Map.entry("\\bassert\\b", 6), Map.entry("\\bsynchronized\\b", 6),
+            Map.entry("\\bgetMessage\\b", 6), Map.entry("\\bhashCode\\b", 6), Map.entry("\\btoString\\(\\)\\s*\\{", 6),
+            Map.entry("\\bwhile \\(true\\)", 9), Map.entry("\\bfor \\(;;", 9), Map.entry("\"\"\\s*\\+|\\+\\s*\"\"", 10),
+            Map.entry("\\bThread\\b", 13), Map.entry("\\brandom\\b|\\bRandom\\b", 13), Map.entry("\\bjava\\.(io|nio|net|time)\\b", 13)));
+    private static final Set<String> IMPORTS = Set.of("java.util.Arrays", "java.util.ArrayList", "java.util.List",
+            "java.util.Iterator", "java.util.NoSuchElementException");
+    private static final Set<String> NO_METHODS = Set.of("if", "for", "while", "switch", "catch", "try", "return", "new", "else");
     private static final Pattern METHOD =
-            Pattern.compile("^( {4}| {8})((?:(?:public|private|static|final|abstract) )*)([\\w\\[\\]]+) (\\w+)\\(([^)]*)\\)");
+            Pattern.compile("[\\w\\]>]\\s+(\\w+)\\(([^()]*)\\)\\s*(?:throws [\\w, \\n]+)?\\{");
 
     private static final Map<String, String> bodies = new TreeMap<>();
 
     public static void main(String[] args) throws IOException {
-        Path file = Path.of(args.length > 0 ? args[0] : ".", "src/main/java/OrderedCast.java");
-        String text = Files.readString(file);
-        String code = text.replaceAll("(?s)/\\*.*?\\*/", "").replaceAll("//[^\n]*", "");
+        Path root = Path.of(args.length > 0 ? args[0] : ".");
+        face(Files.readString(root.resolve("../shared/DOC.md")));
+        nothingElseIsSeen();
+        classesInside();
+        String text = Files.readString(root.resolve("src/main/java/OrderedCast.java"));
+        String code = text.replaceAll("(?s)/\\*.*?\\*/", "").replaceAll("//[^\n]*", "").replaceAll("\"[^\"\n]*\"", "\"\"");
+        Checks.due("signs beyond 127", text.chars().filter(c -> c > 127).count(), 0);
         bannedWords(code);
         imports(code);
         methods(code);
         depths();
-        classes(code);
-        Checks.due("signs beyond 127", text.chars().filter(c -> c > 127).count(), 0);
         Checks.end("language");
     }
 
-    private static void bannedWords(String code) {
-        for (String word : BANNED) {
-            Checks.due("the program has " + word, Pattern.compile(word).matcher(code).find() ? 1 : 0, 0);
+    /** The public face, as the document's block of Java has it. */
+    private static void face(String document) {
+        TreeSet<String> due = new TreeSet<>();
+        String block = document.substring(document.indexOf("```java"), document.indexOf("```", document.indexOf("```java") + 7));
+        Matcher call = Pattern.compile("public (\\w+ )?(\\w+)\\(([^)]*)\\)").matcher(block);
+        while (call.find()) {
+            String types = call.group(3).replaceAll("(\\w+) \\w+", "$1").replace(" ", "");
+            due.add((call.group(1) == null ? "" : call.group(1)) + call.group(2) + "(" + types + ")");
+        }
+        TreeSet<String> got = new TreeSet<>();
+        for (Method method : OrderedCast.class.getDeclaredMethods()) {
+            if (Modifier.isPublic(method.getModifiers())) {
+                got.add(method.getReturnType() + " " + method.getName() + "(" + names(method.getParameterTypes()) + ")");
+            }
+        }
+        for (Constructor<?> constructor : OrderedCast.class.getDeclaredConstructors()) {
+            if (Modifier.isPublic(constructor.getModifiers())) {
+                got.add("OrderedCast(" + names(constructor.getParameterTypes()) + ")");
+            }
+        }
+        Checks.due("the face", got, due);
+        Checks.due("calls of the face", due.size(), 15);
+    }
+
+    private static String names(Class<?>[] types) {
+        return Arrays.stream(types).map(Class::getSimpleName).collect(Collectors.joining(","));
+    }
+
+    /** Rule 1: no other member that others see; rule 5: static fields are final. */
+    private static void nothingElseIsSeen() {
+        int kind = OrderedCast.class.getModifiers();
+        Checks.due("public and final", Modifier.isPublic(kind) && Modifier.isFinal(kind) ? 1 : 0, 1);
+        TreeSet<String> constants = new TreeSet<>();
+        for (Field field : OrderedCast.class.getDeclaredFields()) {
+            boolean seen = !Modifier.isPrivate(field.getModifiers());
+            if (seen && !field.isSynthetic()) {
+                constants.add(field.getName());
+            }
+            boolean loose = Modifier.isStatic(field.getModifiers()) && !Modifier.isFinal(field.getModifiers());
+            Checks.due(field.getName() + " is static and not final", loose ? 1 : 0, 0);
+        }
+        Checks.due("constants", constants.toString(), "[ASK, HELLO, HOLE, NEW, NONE, ORDER, SAID, STATE, WANT]");
+        TreeSet<String> own = new TreeSet<>();
+        TreeSet<String> faceNames = new TreeSet<>();
+        for (Method method : OrderedCast.class.getDeclaredMethods()) {
+            boolean isPublic = Modifier.isPublic(method.getModifiers());
+            boolean seen = !isPublic && !Modifier.isPrivate(method.getModifiers()) && !method.isSynthetic();
+            Checks.due(method.getName() + " is seen by others", seen ? 1 : 0, 0);
+            (isPublic ? faceNames : own).add(method.getName());
+        }
+        own.retainAll(faceNames);
+        Checks.due("private methods that bear the name of a public one", own.toString(), "[]");
+    }
+
+    /** Rules 2 and 11: classes inside are static, not public or protected, and some twelve with some twenty fields. */
+    private static void classesInside() {
+        Class<?>[] inside = OrderedCast.class.getDeclaredClasses();
+        Checks.due("too many classes", inside.length > 12 ? 1 : 0, 0);
+        for (Class<?> one : inside) {
+            int kind = one.getModifiers();
+            boolean right = Modifier.isStatic(kind) && !Modifier.isPublic(kind) && !Modifier.isProtected(kind);
+            Checks.due(one.getSimpleName() + " is static and seen by nobody else", right ? 1 : 0, 1);
+            long fields = Arrays.stream(one.getDeclaredFields()).filter(f -> !Modifier.isStatic(f.getModifiers())).count();
+            Checks.due(one.getSimpleName() + " has too many fields", fields > 20 ? 1 : 0, 0);
         }
     }
 
+    private static void bannedWords(String code) {
+        BANNED.forEach((word, rule) ->
+                Checks.due("the program has " + word + ", rule " + rule, Pattern.compile(word).matcher(code).find() ? 1 : 0, 0));
+    }
+
     private static void imports(String code) {
-        Matcher m = Pattern.compile("import ([\\w.*]+);").matcher(code);
+        Checks.due("a package line", Pattern.compile("(?m)^\\s*package ").matcher(code).find() ? 1 : 0, 0);
+        Matcher m = Pattern.compile("import ([\\w.* ]+);").matcher(code);
         while (m.find()) {
             Checks.due("import " + m.group(1), IMPORTS.contains(m.group(1)) ? 1 : 0, 1);
         }
     }
 
+    /** Rule 11: parameters and lengths. */
     private static void methods(String code) {
-        TreeSet<String> faceNames = new TreeSet<>();
-        List<String> ownNames = new ArrayList<>();
-        String[] lines = code.split("\n");
-        for (int i = 0; i < lines.length; i++) {
-            Matcher m = METHOD.matcher(lines[i]);
-            if (!m.find() || Set.of("new", "return", "else", "throw").contains(m.group(3))) {
+        Matcher m = METHOD.matcher(code);
+        while (m.find()) {
+            String name = m.group(1);
+            if (NO_METHODS.contains(name)) {
                 continue;
             }
-            String name = m.group(4);
-            if (m.group(2).contains("public")) {
-                faceNames.add(name);
-            } else {
-                ownNames.add(name);
-            }
-            Checks.due(name + ": too many parameters", m.group(5).split(",").length > 7 ? 1 : 0, 0);
-            int end = i;
-            while (end < lines.length && !lines[end].equals(m.group(1) + "}") && !lines[end].endsWith(";")
-                    || end < lines.length && lines[end].startsWith(m.group(1) + " ")) {
-                end++;
-            }
-            Checks.due(name + ": too long", end - i > 60 ? 1 : 0, 0);
-            String body = String.join("\n", List.of(lines).subList(i + 1, Math.max(i + 1, Math.min(end, lines.length))));
+            String body = code.substring(m.end(), endOfBody(code, m.end()));
+            Checks.due(name + ": too many parameters", m.group(2).split(",").length > 7 ? 1 : 0, 0);
+            Checks.due(name + ": too long", body.lines().count() > 60 ? 1 : 0, 0);
             bodies.merge(name, body, String::concat);
         }
-        Checks.due("the face", faceNames.toString(),
-                "[at, clear, crash, deliver, flying, heard, hello, lose, packet, say, shared, suspect, thing, told]");
-        for (String name : ownNames) {
-            Checks.due("a method of one's own named " + name, faceNames.contains(name) ? 1 : 0, 0);
+        for (String call : List.of("say", "deliver", "suspect", "clear")) {
+            Checks.due(call + " is found", bodies.containsKey(call) ? 1 : 0, 1);
         }
-        Checks.due("methods of one's own are found", ownNames.size() > 20 ? 1 : 0, 1);
+    }
+
+    private static int endOfBody(String code, int start) {
+        int open = 1;
+        int end = start;
+        while (open > 0 && end < code.length()) {
+            char sign = code.charAt(end);
+            open += sign == '{' ? 1 : sign == '}' ? -1 : 0;
+            end++;
+        }
+        return end;
     }
 
     /** Rule 11: calls go at most eight deep. Methods of one name count as one, which can only seem deeper. */
@@ -87,7 +162,6 @@ public final class LanguageTest {
         for (String name : bodies.keySet()) {
             Checks.due("calls from " + name + " go too deep", depth(name, new TreeSet<>()) > 8 ? 1 : 0, 0);
         }
-        Checks.due("the depth of deliver is found", depth("deliver", new TreeSet<>()) >= 6 ? 1 : 0, 1);
     }
 
     private static int depth(String name, TreeSet<String> above) {
@@ -102,18 +176,5 @@ public final class LanguageTest {
             above.remove(name);
         }
         return deepest + 1;
-    }
-
-    private static void classes(String code) {
-        Matcher m = Pattern.compile("\\n( *)([a-z ]*)class \\w+").matcher(code);
-        int count = 0;
-        while (m.find()) {
-            count++;
-            boolean inside = !m.group(1).isEmpty();
-            Checks.due("a class inside is private and static",
-                    inside && !(m.group(2).contains("private") && m.group(2).contains("static")) ? 1 : 0, 0);
-        }
-        Checks.due("too many classes", count > 12 ? 1 : 0, 0);
-        Checks.due("classes are found", count > 1 ? 1 : 0, 1);
     }
 }

@@ -10,6 +10,7 @@ import java.util.function.IntSupplier;
 public final class ModelTest {
     private static final int RUNS = 4000;
     private static final int CALLS = 512;
+    private static final int LAST_LOOK = 150;
 
     private long seed;
     private final OrderedCast x;
@@ -60,9 +61,12 @@ public final class ModelTest {
     }
 
     private void goOn() {
+        int sure = 0;
         for (int i = 0; i < CALLS && !wrong; i++) {
-            boolean asks = random(3) == 0 || i > CALLS - 60;
-            if (asks) {
+            if (i >= CALLS - LAST_LOOK && sure < model.count * (7 + model.count)) {
+                askNext(sure);
+                sure++;
+            } else if (i >= CALLS - LAST_LOOK || random(3) == 0) {
                 ask();
             } else {
                 act();
@@ -97,11 +101,25 @@ public final class ModelTest {
         }
     }
 
+    /** Of each node what it tells, how many things it heard, and what flies from it to each node. */
+    private void askNext(int number) {
+        int a = number % model.count;
+        int question = number / model.count;
+        if (question < 6) {
+            same("told(" + a + ", " + question + ")", () -> x.told(a, question), () -> model.told(a, question));
+        } else if (question == 6) {
+            same("heard(" + a + ")", () -> x.heard(a), () -> model.heard(a));
+        } else {
+            int b = question - 7;
+            same("flying(" + a + ", " + b + ")", () -> x.flying(a, b), () -> model.flying(a, b));
+        }
+    }
+
     private void ask() {
         int a = node();
         int b = node();
         int what = what(6);
-        int k = random(12) - 1;
+        int k = random(random(3) == 0 ? 64 : 12) - 1;
         switch (random(8)) {
             case 0 -> same("heard(" + a + ")", () -> x.heard(a), () -> model.heard(a));
             case 1 -> same("at(" + a + ", " + k + ")", () -> x.at(a, k), () -> model.at(a, k));
