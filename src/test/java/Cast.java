@@ -82,6 +82,22 @@ final class Cast {
         });
     }
 
+    /** A packet that no run of calls brings upon a line. It counts as a call, so that twins get it too. */
+    void put(int from, int to, int kind, int view, int place, int thing) {
+        call(x -> {
+            Inside.put(x, from, to, kind, view, place, thing);
+            return 0;
+        });
+    }
+
+    /** STATE or NEW that no run of calls brings upon a line. */
+    void putLog(int from, int to, int kind, int view, int... entries) {
+        call(x -> {
+            Inside.putLog(x, from, to, kind, view, entries);
+            return 0;
+        });
+    }
+
     /** The leader of the view before crashes; all behind it suspect that, and settle in this view by STATE and NEW. */
     void goToView(int view, int nodes) {
         crash(view - 1);
