@@ -17,6 +17,7 @@ public final class InsideTest {
         askOfItsView();
         askOfAThingInTheLog();
         theThingOfTheGreatestNode();
+        whatNodeZeroHas();
         aThingRatherThanAHole();
         theLatestStateOfEachNode();
         stateOfAViewAboveThatIsNotItsOwn();
@@ -199,6 +200,9 @@ public final class InsideTest {
             x.say(0, i);
         }
         x.deliver(0, 1);
+        for (int left = 5; left > 0; left--) {
+            x.lose(0, 1);
+        }
         x.crash(0);
         x.suspect(1, 0);
         Checks.told(x, 1, 1, 1, 0, 1, 0, 1);
@@ -229,6 +233,42 @@ public final class InsideTest {
         z.suspect(3, 0);
         z.deliver(1, 3);
         Checks.row(z, 3, 0);
+    }
+
+    /** "that some STATE has there", "up to the last one that any has": also node 0's, which leads again in view 3. */
+    private static void whatNodeZeroHas() {
+        Cast x = leaderThatJoins();
+        x.putLog(0, 1, OrderedCast.STATE, 1, 1, 2, 3);
+        x.putLog(2, 1, OrderedCast.STATE, 1);
+        x.putLog(3, 1, OrderedCast.STATE, 1, 0, NOTHING);
+        Checks.due("STATE", x.deliver(0, 1), 0);
+        Checks.due("STATE", x.deliver(2, 1), 0);
+        Checks.due("STATE", x.deliver(3, 1), 2);
+        Checks.row(x, 1, 0, 2, 3);
+        Cast y = new Cast(3, 0);
+        y.say(0, 10);
+        y.say(0, 11);
+        y.putLog(2, 0, OrderedCast.NEW, 2, 0, 1);
+        y.putLog(2, 1, OrderedCast.NEW, 2, 0);
+        y.deliver(2, 0);
+        y.deliver(2, 1);
+        y.crash(2);
+        y.suspect(0, 2);
+        y.suspect(1, 2);
+        y.deliver(1, 0);
+        Checks.told(y, 0, 1, 3, 1, 2, 0, 1);
+        y.lose(0, 1);
+        y.lose(0, 1);
+        Checks.due("NEW", y.deliver(0, 1), 1);
+        Checks.row(y, 1, 0, 1);
+        Cast z = leaderThatJoins();
+        z.putLog(2, 1, OrderedCast.STATE, 5, 0);
+        z.putLog(0, 1, OrderedCast.STATE, 1, 0, 5);
+        z.deliver(0, 1);
+        z.deliver(2, 1);
+        z.putLog(3, 1, OrderedCast.STATE, 5, 0);
+        Checks.due("STATE of the view that was left does not count", z.deliver(3, 1), 0);
+        Checks.told(z, 1, 1, 5, 1, 1, 0, 1);
     }
 
     /** "the thing that some STATE has there .., else a HOLE": a hole of a greater node counts for nothing. */
